@@ -136,7 +136,7 @@ public final class WordBench {
         if (line == null) {
             return OTHER_KIND;
         }
-        return what == 4 ? line.formed().rows.length : told(line.isWithinDual());
+        return what == 4 ? line.form.rank : told(line.isWithinDual());
     }
 
     public long word(int place, int i) throws IllegalArgumentException, IllegalStateException {
@@ -200,9 +200,8 @@ public final class WordBench {
             return refusalOfLineAt(place);
         }
         Code formed = line.changed();
-        long[] rows = line.formed().rows;
-        for (int i = 0; i < rows.length; i++) {
-            formed.put(rows[i]);
+        for (int i = 0; i < line.form.rank; i++) {
+            formed.put(line.form.at(i));
         }
         return put(place, formed);
     }
@@ -215,8 +214,7 @@ public final class WordBench {
         if (line == null) {
             return refusalOfLineAt(place);
         }
-        long[] rows = line.formed().rows;
-        return i >= rows.length ? NOT_THERE : line.space.headOf(rows[i]);
+        return i >= line.form.rank ? NOT_THERE : line.space.headOf(line.form.at(i));
     }
 
     public int dual(int place, int to) {
@@ -227,11 +225,10 @@ public final class WordBench {
         if (line == null) {
             return refusalOfLineAt(place);
         }
-        Form form = line.formed();
         Line dual = new Line(line.space);
         for (int free = 0; free < line.space.n; free++) {
-            if (!form.isHead(free)) {
-                dual.put(form.dualRow(free));
+            if (!line.form.isHead(free)) {
+                dual.put(line.form.dualRow(free));
             }
         }
         return put(to, dual);
@@ -250,12 +247,11 @@ public final class WordBench {
         if (line == null) {
             return OTHER_KIND;
         }
-        Form form = line.formed();
         long packed = space.packed(word);
         long checks = 0;
         for (int free = 0; free < space.n; free++) {
-            if (!form.isHead(free)) {
-                checks = checks * space.q + space.productOf(packed, form.dualRow(free));
+            if (!line.form.isHead(free)) {
+                checks = checks * space.q + space.productOf(packed, line.form.dualRow(free));
             }
         }
         return checks;
@@ -351,9 +347,12 @@ public final class WordBench {
         if (many < 0) {
             return SPENT;
         }
+        if (many == 0) {
+            return NOT_THERE;
+        }
         long packed = space.packed(word);
         long kept = ~space.lettersAt(lost);
-        long nearest = NOT_THERE;
+        long nearest = 0;
         int least = LONGEST + 1;
         for (int k = 0; k < many && k < words.length; k++) {
             int way = space.weightOf((words[k] ^ packed) & kept);
@@ -362,7 +361,7 @@ public final class WordBench {
                 nearest = words[k];
             }
         }
-        return nearest < 0 ? nearest : space.number(nearest);
+        return space.number(nearest);
     }
 
     public int near(int place, long word, int d) {
@@ -647,7 +646,7 @@ public final class WordBench {
         if (n < 0) {
             return BELOW_ZERO;
         }
-        shelf[d] = what == BYTES ? new ByteRow(n) : new LongRow(n);
+        shelf[d] = new Row(what, n);
         return 0;
     }
 
@@ -655,8 +654,8 @@ public final class WordBench {
         if (!isShelf(d)) {
             throw new IllegalArgumentException("no such shelf");
         }
-        Row row = rowOf(shelf[d]);
-        if (row == null || i < 0 || i >= row.length()) {
+        Row row = rowOn(d);
+        if (row == null || !row.holds(i, 1)) {
             throw new IllegalStateException("no such element");
         }
         return row.at(i);
@@ -669,9 +668,9 @@ public final class WordBench {
         if (shelf[d] == null || shelf[e] == null) {
             return EMPTY;
         }
-        Row from = rowOf(shelf[d]);
-        Row to = rowOf(shelf[e]);
-        if (from == null || to == null || !to.isLike(from)) {
+        Row from = rowOn(d);
+        Row to = rowOn(e);
+        if (from == null || to == null || from.kind != to.kind) {
             return OTHER_KIND;
         }
         if (!from.holds(i, n) || !to.holds(j, n)) {
@@ -682,26 +681,14 @@ public final class WordBench {
     }
 
     public int heft(int d) {
-        if (!isShelf(d)) {
-            return NO_SUCH;
-        }
-        if (shelf[d] == null) {
-            return EMPTY;
-        }
-        Code code = codeOf(shelf[d]);
-        return code == null ? OTHER_KIND : code.hefted();
+        Code code = codeOn(d);
+        return code == null ? refusalOfCodeOn(d) : code.hefted();
     }
 
     public int toss(int d) {
-        if (!isShelf(d)) {
-            return NO_SUCH;
-        }
-        if (shelf[d] == null) {
-            return EMPTY;
-        }
-        Code code = codeOf(shelf[d]);
+        Code code = codeOn(d);
         if (code == null) {
-            return OTHER_KIND;
+            return refusalOfCodeOn(d);
         }
         try {
             code.fail();
@@ -743,15 +730,23 @@ public final class WordBench {
         return null;
     }
 
-    private static Code codeOf(Held held) {
-        if (held instanceof Code code) {
+    private Code codeOn(int d) {
+        if (isShelf(d) && shelf[d] instanceof Code code) {
             return code;
         }
         return null;
     }
 
-    private static Row rowOf(Held held) {
-        if (held instanceof Row row) {
+    /** The refusal for a SHELF without a CODE. */
+    private int refusalOfCodeOn(int d) {
+        if (!isShelf(d)) {
+            return NO_SUCH;
+        }
+        return shelf[d] == null ? EMPTY : OTHER_KIND;
+    }
+
+    private Row rowOn(int d) {
+        if (isShelf(d) && shelf[d] instanceof Row row) {
             return row;
         }
         return null;
@@ -889,16 +884,16 @@ public final class WordBench {
         return least;
     }
 
-    private static ByteRow lettersOf(Code code, int k) {
-        ByteRow letters = new ByteRow(code.space.n);
+    private static Row lettersOf(Code code, int k) {
+        Row letters = new Row(BYTES, code.space.n);
         for (int place = 0; place < code.space.n; place++) {
             letters.set(place, code.space.letter(code.at(k), place));
         }
         return letters;
     }
 
-    private static LongRow numbersOf(Code code) {
-        LongRow numbers = new LongRow(code.count);
+    private static Row numbersOf(Code code) {
+        Row numbers = new Row(LONGS, code.count);
         for (int i = 0; i < code.count; i++) {
             numbers.set(i, code.space.number(code.at(i)));
         }
@@ -995,16 +990,12 @@ public final class WordBench {
         }
 
         int negative(int letter) {
-            return q == 4 ? letter : (int) times(q - 1, letter);
+            return q == 4 || letter == 0 ? letter : q - letter;
         }
 
+        /** Of 4 and of 5 letters 2 times 3 is 1; all others times themselves are. */
         int inverse(int letter) {
-            for (int other = 1; other < q; other++) {
-                if (times(other, letter) == 1) {
-                    return other;
-                }
-            }
-            return 0;
+            return q > 3 && (letter == 2 || letter == 3) ? 5 - letter : letter;
         }
 
         int weightOf(long word) {
@@ -1257,11 +1248,11 @@ public final class WordBench {
 
     /** All sums of letters times ROWS. */
     private static class Line extends Code {
-        // A FORM is asked for word by word: it is kept until a ROW comes.
-        private Form form;
+        final Form form;
 
         Line(Space space) {
             super(space, MOST_ROWS);
+            form = new Form(space);
         }
 
         int kind() {
@@ -1273,15 +1264,10 @@ public final class WordBench {
         }
 
         void put(long row) {
-            super.put(row);
-            form = null;
-        }
-
-        Form formed() {
-            if (form == null) {
-                form = Form.of(this);
+            if (!isFull()) {
+                super.put(row);
+                form.extend(row);
             }
-            return form;
         }
 
         /** Whether a word has PRODUCT 0 with all ROWS. */
@@ -1304,11 +1290,11 @@ public final class WordBench {
         }
 
         boolean has(long word) {
-            return formed().spans(word);
+            return form.restOf(word) == 0;
         }
 
         long many() {
-            return power(space.q, formed().rows.length);
+            return power(space.q, form.rank);
         }
 
         /** In FORM the letters at the HEADS rise as the numbers do. */
@@ -1318,9 +1304,8 @@ public final class WordBench {
             }
             room[0] = 0;
             int filled = 1;
-            long[] rows = formed().rows;
-            for (int i = rows.length - 1; i >= 0; i--) {
-                filled = addTimes(rows[i], room, filled);
+            for (int i = form.rank - 1; i >= 0; i--) {
+                filled = addTimes(form.at(i), room, filled);
             }
             return filled;
         }
@@ -1416,49 +1401,56 @@ public final class WordBench {
         }
     }
 
-    /** The FORM of a LINE: as many rows as its RANK; the HEAD of a row is its first place with a letter but 0. */
+    /**
+     * The FORM of a LINE, as its ROWS come: whatever their order, it hangs on their sums alone. The HEAD of a row is
+     * its first place with a letter but 0.
+     */
     private static final class Form {
         final Space space;
-        final long[] rows;
+        private final long[] rows;
+        int rank;
 
-        private Form(Space space, long[] rows) {
+        Form(Space space) {
             this.space = space;
-            this.rows = rows;
+            rows = new long[MOST_ROWS];
         }
 
-        static Form of(Line line) {
-            long[] rows = new long[Math.max(line.count, 0)];
-            for (int i = 0; i < rows.length; i++) {
-                rows[i] = line.at(i);
-            }
-            int rank = 0;
-            for (int place = 0; place < line.space.n; place++) {
-                rank += useRowFor(place, line.space, rows, rank);
-            }
-            return new Form(line.space, Arrays.copyOf(rows, Math.max(rank, 0)));
+        long at(int i) {
+            return i >= 0 && i < rank && i < rows.length ? rows[i] : 0;
         }
 
-        /** How many rows are used for a place: 1, or 0 if none has a letter there. */
-        private static int useRowFor(int place, Space space, long[] rows, int rank) {
-            int found = Math.max(rank, 0);
-            while (found < rows.length && space.letter(rows[found], place) == 0) {
-                found++;
+        void extend(long row) {
+            long rest = restOf(row);
+            if (rest == 0 || rank < 0 || rank >= rows.length) {
+                return;
             }
-            if (rank < 0 || found >= rows.length) {
-                return 0;
+            int head = space.headOf(rest);
+            long used = space.times(space.inverse(space.letter(rest, head)), rest);
+            for (int i = 0; i < rank; i++) {
+                rows[i] = space.cleared(rows[i], used, head);
             }
-            long used = space.times(space.inverse(space.letter(rows[found], place)), rows[found]);
-            rows[found] = rows[rank];
-            for (int i = 0; i < rows.length; i++) {
-                rows[i] = space.cleared(rows[i], used, place);
+            // A row with an earlier HEAD is the greater number.
+            int place = rank;
+            while (place > 0 && rows[place - 1] < used) {
+                rows[place] = rows[place - 1];
+                place--;
             }
-            rows[rank] = used;
-            return 1;
+            rows[place] = used;
+            rank++;
+        }
+
+        /** What is left of a word when it is cleared at all HEADS: 0 of the LINE's words alone. */
+        long restOf(long word) {
+            long rest = word;
+            for (int i = 0; i < rank; i++) {
+                rest = space.cleared(rest, at(i), space.headOf(at(i)));
+            }
+            return rest;
         }
 
         boolean isHead(int place) {
-            for (int i = 0; i < rows.length; i++) {
-                if (space.headOf(rows[i]) == place) {
+            for (int i = 0; i < rank; i++) {
+                if (space.headOf(at(i)) == place) {
                     return true;
                 }
             }
@@ -1468,98 +1460,40 @@ public final class WordBench {
         /** The DUAL's ROW for a place that is no HEAD. */
         long dualRow(int free) {
             long row = space.withLetter(1, free);
-            for (int i = 0; i < rows.length; i++) {
-                row |= space.withLetter(space.negative(space.letter(rows[i], free)), space.headOf(rows[i]));
+            for (int i = 0; i < rank; i++) {
+                row |= space.withLetter(space.negative(space.letter(at(i), free)), space.headOf(at(i)));
             }
             return row;
         }
-
-        boolean spans(long word) {
-            long rest = word;
-            for (int i = 0; i < rows.length; i++) {
-                rest = space.cleared(rest, rows[i], space.headOf(rows[i]));
-            }
-            return rest == 0;
-        }
     }
 
-    /** A ROW on a SHELF. */
-    private abstract static class Row extends Held {
-        abstract int length();
+    /** A ROW on a SHELF, of bytes or of longs. Those of bytes hold letters alone: all are kept as longs. */
+    private static final class Row extends Held {
+        final int kind;
+        private final long[] elements;
 
-        abstract long at(int i);
-
-        abstract void set(int i, long element);
-
-        abstract boolean isLike(Row other);
-
-        abstract void take(Row from, int i, int j, int n);
+        Row(int kind, int n) {
+            this.kind = kind;
+            elements = new long[Math.max(n, 0)];
+        }
 
         boolean holds(int from, int n) {
-            return from >= 0 && n >= 0 && n <= length() && from <= length() - n;
-        }
-    }
-
-    private static final class ByteRow extends Row {
-        private final byte[] bytes;
-
-        ByteRow(int n) {
-            bytes = new byte[Math.max(n, 0)];
-        }
-
-        int length() {
-            return bytes.length;
+            return from >= 0 && n >= 0 && n <= elements.length && from <= elements.length - n;
         }
 
         long at(int i) {
-            return i >= 0 && i < bytes.length ? bytes[i] : 0;
+            return holds(i, 1) ? elements[i] : 0;
         }
 
         void set(int i, long element) {
-            if (i >= 0 && i < bytes.length) {
-                bytes[i] = (byte) element;
+            if (holds(i, 1)) {
+                elements[i] = element;
             }
         }
 
-        boolean isLike(Row other) {
-            return other instanceof ByteRow;
-        }
-
-        void take(Row from, int i, int j, int n) {
-            if (from instanceof ByteRow other && other.holds(i, n) && holds(j, n)) {
-                System.arraycopy(other.bytes, i, bytes, j, n);
-            }
-        }
-    }
-
-    private static final class LongRow extends Row {
-        private final long[] longs;
-
-        LongRow(int n) {
-            longs = new long[Math.max(n, 0)];
-        }
-
-        int length() {
-            return longs.length;
-        }
-
-        long at(int i) {
-            return i >= 0 && i < longs.length ? longs[i] : 0;
-        }
-
-        void set(int i, long element) {
-            if (i >= 0 && i < longs.length) {
-                longs[i] = element;
-            }
-        }
-
-        boolean isLike(Row other) {
-            return other instanceof LongRow;
-        }
-
-        void take(Row from, int i, int j, int n) {
-            if (from instanceof LongRow other && other.holds(i, n) && holds(j, n)) {
-                System.arraycopy(other.longs, i, longs, j, n);
+        void take(Row other, int i, int j, int n) {
+            if (other.holds(i, n) && holds(j, n)) {
+                System.arraycopy(other.elements, i, elements, j, n);
             }
         }
     }

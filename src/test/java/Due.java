@@ -8,6 +8,16 @@ final class Due {
         this.test = test;
     }
 
+    /** A bench with a code at place 0 that has those words or rows. */
+    static WordBench with(int kind, int q, int n, long... words) {
+        WordBench x = new WordBench();
+        x.make(0, kind, q, n);
+        for (long w : words) {
+            x.add(0, w);
+        }
+        return x;
+    }
+
     void is(String call, long got, long want) {
         asked++;
         if (got != want) {

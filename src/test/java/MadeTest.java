@@ -17,15 +17,6 @@ public final class MadeTest {
         due.end();
     }
 
-    private static WordBench with(int kind, int q, int n, long... words) {
-        WordBench x = new WordBench();
-        x.make(0, kind, q, n);
-        for (long w : words) {
-            x.add(0, w);
-        }
-        return x;
-    }
-
     private static void words(String call, WordBench x, int place, int kind, int n, long... words) {
         due.is(call + ": KIND", x.look(place, 0), kind);
         due.is(call + ": n", x.look(place, 2), n);
@@ -36,13 +27,13 @@ public final class MadeTest {
     }
 
     private static void longer() {
-        WordBench x = with(0, 3, 2, 4, 0, 5);
+        WordBench x = Due.with(0, 3, 2, 4, 0, 5);
         due.is("27 longer: LISTED", x.longer(0, 1), 3);
         words("27 longer: LISTED", x, 1, 0, 3, 13, 0, 15);
-        x = with(1, 5, 2, 7, 7, 24);
+        x = Due.with(1, 5, 2, 7, 7, 24);
         due.is("27 longer: a LINE", x.longer(0, 0), 3);
         words("27 longer: a LINE", x, 0, 1, 3, 37, 37, 122);
-        x = with(3, 4, 2, 5);
+        x = Due.with(3, 4, 2, 5);
         due.is("27 longer: OWN", x.longer(0, 1), 1);
         words("27 longer: OWN becomes a LINE", x, 1, 1, 3, 20);
         x.ring(0, 4, 2, 9);
@@ -57,15 +48,15 @@ public final class MadeTest {
     }
 
     private static void cut() {
-        WordBench x = with(0, 3, 3, 26, 17, 5, 0, 8);
+        WordBench x = Due.with(0, 3, 3, 26, 17, 5, 0, 8);
         due.is("28 cut: LISTED, place 0", x.cut(0, 0, 1), 3);
         words("28 cut: LISTED, once each", x, 1, 0, 2, 8, 5, 0);
         due.is("28 cut: LISTED, place 2", x.cut(0, 2, 1), 5);
         words("28 cut: LISTED, place 2", x, 1, 0, 2, 8, 5, 1, 0, 2);
-        x = with(1, 2, 3, 6, 4, 6);
+        x = Due.with(1, 2, 3, 6, 4, 6);
         due.is("28 cut: a LINE, place 1", x.cut(0, 1, 0), 3);
         words("28 cut: a LINE, ROWS as they are", x, 0, 1, 2, 2, 2, 2);
-        x = with(3, 2, 4, 15);
+        x = Due.with(3, 2, 4, 15);
         due.is("28 cut: OWN", x.cut(0, 3, 0), 1);
         words("28 cut: OWN becomes a LINE", x, 0, 1, 3, 7);
         x.ring(0, 5, 12, 1);
@@ -80,20 +71,24 @@ public final class MadeTest {
     }
 
     private static void shorter() {
-        WordBench x = with(0, 3, 3, 26, 17, 5, 0, 8);
+        WordBench x = Due.with(0, 3, 3, 26, 17, 5, 0, 8);
         due.is("29 shorter: LISTED", x.shorter(0, 0, 1), 3);
         words("29 shorter: LISTED", x, 1, 0, 2, 5, 0, 8);
         due.is("29 shorter: LISTED, none left", x.shorter(0, 1, 1), 1);
         words("29 shorter: LISTED, place 1", x, 1, 0, 2, 0);
-        x = with(1, 5, 3, 1, 56, 111, 60);
+        x = Due.with(1, 5, 3, 1, 56, 111, 60);
         due.is("29 shorter: a LINE", x.shorter(0, 0, 1), 3);
         // 0 0 1; from 4 2 1 twice 2 1 1 is taken: 0 0 4; from 2 2 0 once: 0 1 4.
         words("29 shorter: a LINE", x, 1, 1, 2, 1, 4, 9);
-        x = with(1, 4, 2, 3, 1);
+        x = Due.with(1, 3, 3, 14, 9, 1);
+        due.is("29 shorter: a LINE, its first ROW goes", x.shorter(0, 0, 1), 2);
+        // From 1 0 0 once 1 1 2 is taken: 0 2 1.
+        words("29 shorter: a LINE, its first ROW goes", x, 1, 1, 2, 7, 1);
+        x = Due.with(1, 4, 2, 3, 1);
         due.is("29 shorter: a LINE with 0 there", x.shorter(0, 0, 0), 2);
         words("29 shorter: a LINE with 0 there", x, 0, 1, 1, 3, 1);
         due.is("29 shorter: n is 1", x.shorter(0, 0, 0), -1);
-        x = with(3, 2, 4, 12, 3);
+        x = Due.with(3, 2, 4, 12, 3);
         due.is("29 shorter: OWN", x.shorter(0, 3, 0), 1);
         words("29 shorter: OWN becomes a LINE", x, 0, 1, 3, 6);
         x.ring(0, 2, 3, 3);
@@ -102,7 +97,7 @@ public final class MadeTest {
     }
 
     private static void join() {
-        WordBench x = with(1, 3, 2, 5, 1);
+        WordBench x = Due.with(1, 3, 2, 5, 1);
         x.ring(1, 3, 2, 7);
         due.is("30 join: ROWS of both", x.join(0, 1, 0, 2), 3);
         words("30 join: ROWS of both", x, 2, 1, 2, 5, 1, 5);
@@ -118,13 +113,13 @@ public final class MadeTest {
         words("30 join: the other way round", x, 2, 1, 3, 18, 5, 1);
         due.is("30 join: with itself onto itself", x.join(0, 0, 2, 0), 4);
         words("30 join: with itself onto itself", x, 0, 1, 4, 50, 10, 5, 1);
-        x = with(3, 2, 2, 3);
+        x = Due.with(3, 2, 2, 3);
         due.is("30 join: OWN", x.join(0, 0, 0, 1), 2);
         words("30 join: OWN becomes a LINE", x, 1, 1, 2, 3, 3);
     }
 
     private static void joinRefusals() {
-        WordBench x = with(1, 2, 6, 5, 1);
+        WordBench x = Due.with(1, 2, 6, 5, 1);
         x.make(1, 1, 2, 7);
         x.make(2, 1, 3, 6);
         x.make(3, 0, 2, 6);
@@ -156,14 +151,14 @@ public final class MadeTest {
     }
 
     private static void list() {
-        WordBench x = with(1, 3, 3, 19, 2);
+        WordBench x = Due.with(1, 3, 3, 19, 2);
         due.is("31 list", x.list(0, 0), 9);
         words("31 list: by numbers", x, 0, 0, 3, 0, 1, 2, 9, 10, 11, 18, 19, 20);
         due.is("31 list: LISTED", x.list(0, 1), -12);
-        x = with(1, 4, 2);
+        x = Due.with(1, 4, 2);
         due.is("31 list: of no ROW", x.list(0, 1), 1);
         words("31 list: of no ROW", x, 1, 0, 2, 0);
-        x = with(1, 4, 2, 7);
+        x = Due.with(1, 4, 2, 7);
         x.list(0, 1);
         words("31 list: of 4", x, 1, 0, 2, 0, 7, 9, 14);
         x.ring(0, 5, 3, 1);
@@ -179,14 +174,14 @@ public final class MadeTest {
     }
 
     private static void turn() {
-        WordBench x = with(0, 5, 3, 5, 38, 0);
+        WordBench x = Due.with(0, 5, 3, 5, 38, 0);
         due.is("32 turn: place 0 to 1, 1 to 2, 2 to 0; all twice", x.turn(0, 0x021, 2, 1), 3);
         // 0 1 0 comes to 0 0 1; 1 2 3 to 3 1 2.
         words("32 turn: LISTED", x, 1, 0, 3, 2, 25 + 10 + 4, 0);
-        x = with(1, 4, 2, 6, 6);
+        x = Due.with(1, 4, 2, 6, 6);
         due.is("32 turn: a LINE, 3 times", x.turn(0, 0x01, 3, 0), 2);
         words("32 turn: 1 2 is 2 1, and 3 times that 1 3", x, 0, 1, 2, 7, 7);
-        x = with(3, 2, 4, 12);
+        x = Due.with(3, 2, 4, 12);
         x.turn(0, 0x0213, 1, 0);
         words("32 turn: OWN stays OWN", x, 0, 3, 4, 5);
         x.ring(0, 3, 3, 4);
@@ -198,7 +193,7 @@ public final class MadeTest {
     }
 
     private static void turnRefusals() {
-        WordBench x = with(1, 3, 3, 5);
+        WordBench x = Due.with(1, 3, 3, 5);
         x.make(1, 0, 2, 2);
         due.is("32 turn: c 0", x.turn(0, 0x210, 0, 1), -1);
         due.is("32 turn: c 3", x.turn(0, 0x210, 3, 1), -1);
@@ -206,6 +201,7 @@ public final class MadeTest {
         due.is("32 turn: twice to a place", x.turn(0, 0x110, 1, 1), -1);
         due.is("32 turn: to place 3", x.turn(0, 0x310, 1, 1), -1);
         due.is("32 turn: to place 15", x.turn(0, 0xF10, 1, 1), -1);
+        due.is("32 turn: none to place 0", x.turn(0, 0x211, 1, 1), -1);
         due.is("32 turn: a digit more", x.turn(0, 0x3210, 1, 1), -1);
         due.is("32 turn: digits that are 0 alike", x.turn(0, 0x2, 1, 1), -1);
         due.is("32 turn: below 0", x.turn(0, ~0xFFFL | 0x210, 1, 1), -1);
@@ -216,7 +212,7 @@ public final class MadeTest {
     }
 
     private static void same() {
-        WordBench x = with(1, 3, 3, 9, 1);
+        WordBench x = Due.with(1, 3, 3, 9, 1);
         x.make(1, 1, 3, 3);
         x.add(1, 11);
         x.add(1, 10);
@@ -257,6 +253,13 @@ public final class MadeTest {
         x.make(7, 1, 3, 2);
         due.is("33 same: unlike lengths", x.same(0, 7), -4);
         due.is("33 same: unlike FIELDS", x.same(6, 7), -4);
+        x.make(1, 0, 2, 2);
+        x.make(2, 0, 2, 2);
+        x.add(1, 1);
+        x.add(1, 3);
+        x.add(2, 2);
+        x.add(2, 3);
+        due.is("33 same: LISTED ones, the first word is another", x.same(1, 2), 0);
         due.is("33 same: empty", x.same(11, 0), -11);
         due.is("33 same: other empty", x.same(0, 11), -11);
         due.is("33 same: place -1", x.same(-1, 0), -1);
@@ -267,6 +270,10 @@ public final class MadeTest {
         x.make(9, 0, 5, 12);
         due.is("33 same: SPENT", x.same(8, 9), -5);
         due.is("33 same: SPENT, the other way", x.same(9, 8), -5);
+        x.ring(10, 2, 12, 1);
+        x.make(11, 0, 2, 12);
+        due.is("33 same: 4096 are not SPENT", x.same(10, 11), 0);
+        x.empty(11);
         x.make(9, 0, 5, 11);
         due.is("33 same: unlike ahead of SPENT", x.same(9, 8), -4);
     }
@@ -286,7 +293,7 @@ public final class MadeTest {
         due.is("34 design: WEIGHT 0", x.design(0, 0, 0), 1);
         due.is("34 design: WEIGHT 0 at a place", x.design(0, 0, 1), 0);
         due.is("34 design: all places", x.design(0, 7, 127), 1);
-        x = with(0, 3, 3, 18, 10, 2, 26, 24);
+        x = Due.with(0, 3, 3, 18, 10, 2, 26, 24);
         due.is("34 design: LISTED, place 0 is bit 0", x.design(0, 1, 1), 1);
         due.is("34 design: LISTED, two", x.design(0, 2, 1), 2);
         due.is("34 design: LISTED, 2 2 0", x.design(0, 2, 3), 1);
@@ -307,7 +314,7 @@ public final class MadeTest {
 
     /** What longer, cut, shorter, list and turn refuse alike. */
     private static void refusals() {
-        WordBench x = with(1, 2, 3, 5);
+        WordBench x = Due.with(1, 2, 3, 5);
         for (int no : new int[] {-1, 12, Integer.MIN_VALUE, Integer.MAX_VALUE}) {
             due.is("27 longer: place", x.longer(no, 0), -1);
             due.is("27 longer: to, ahead of empty", x.longer(1, no), -1);

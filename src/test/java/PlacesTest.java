@@ -163,6 +163,9 @@ public final class PlacesTest {
         x.add(0, 25);
         due.is("6 look: RANK", x.look(0, 4), 2);
         due.is("6 look: no longer within its DUAL", x.look(0, 5), 0);
+        x.make(1, 1, 2, 2);
+        x.add(1, 1);
+        due.is("6 look: one ROW, with itself 1", x.look(1, 5), 0);
         x.make(1, 0, 4, 2);
         x.add(1, 3);
         due.is("6 look: LISTED", x.look(1, 0), 0);

@@ -18,17 +18,8 @@ public final class RowsTest {
         due.end();
     }
 
-    private static WordBench with(int kind, int q, int n, long... words) {
-        WordBench x = new WordBench();
-        x.make(0, kind, q, n);
-        for (long w : words) {
-            x.add(0, w);
-        }
-        return x;
-    }
-
     private static void keepCode() {
-        WordBench x = with(0, 3, 2, 7, 2);
+        WordBench x = Due.with(0, 3, 2, 7, 2);
         due.is("35 keep: a CODE, k does not matter", x.keep(5, 1, 0, -9), 0);
         x.add(0, 1);
         due.is("35 keep: as it was then", x.heft(5), 2);
@@ -43,7 +34,7 @@ public final class RowsTest {
     }
 
     private static void keepRows() {
-        WordBench x = with(0, 5, 3, 7, 119);
+        WordBench x = Due.with(0, 5, 3, 7, 119);
         due.is("35 keep: letters", x.keep(0, 3, 0, 1), 0);
         due.is("35 keep: letter 0", x.element(0, 0), 4);
         due.is("35 keep: letter 1", x.element(0, 1), 3);
@@ -67,7 +58,7 @@ public final class RowsTest {
     }
 
     private static void keepRefusals() {
-        WordBench x = with(1, 5, 3, 7, 119);
+        WordBench x = Due.with(1, 5, 3, 7, 119);
         x.keep(0, 1, 0, 0);
         due.is("35 keep: shelf -1", x.keep(-1, 0, 0, 0), -1);
         due.is("35 keep: shelf 6", x.keep(6, 1, 0, 0), -1);
@@ -112,7 +103,7 @@ public final class RowsTest {
     }
 
     private static void element() {
-        WordBench x = with(1, 5, 12, 244140624);
+        WordBench x = Due.with(1, 5, 12, 244140624);
         x.keep(0, 4, 0, 0);
         due.is("37 element", x.element(0, 0), 244140624);
         due.fails("37 element: 1", STATE, () -> x.element(0, 1));
@@ -126,7 +117,7 @@ public final class RowsTest {
     }
 
     private static void copy() {
-        WordBench x = with(0, 2, 5, 22);
+        WordBench x = Due.with(0, 2, 5, 22);
         x.keep(0, 3, 0, 0);
         x.row(1, 3, 4);
         due.is("38 copy", x.copy(0, 0, 1, 1, 3), 3);
@@ -154,7 +145,7 @@ public final class RowsTest {
     }
 
     private static void copyRefusals() {
-        WordBench x = with(0, 2, 2, 3);
+        WordBench x = Due.with(0, 2, 2, 3);
         x.keep(0, 3, 0, 0);
         x.row(1, 3, 4);
         x.row(2, 4, 4);
@@ -181,7 +172,7 @@ public final class RowsTest {
     }
 
     private static void heft() {
-        WordBench x = with(0, 2, 3);
+        WordBench x = Due.with(0, 2, 3);
         x.keep(0, 1, 0, 0);
         due.is("39 heft: no word", x.heft(0), 0);
         x.add(0, 1);
@@ -216,7 +207,7 @@ public final class RowsTest {
     }
 
     private static void toss() {
-        WordBench x = with(0, 2, 3, 1);
+        WordBench x = Due.with(0, 2, 3, 1);
         x.keep(0, 1, 0, 0);
         due.is("40 toss: LISTED", x.toss(0), -15);
         x.make(0, 1, 2, 12);

@@ -18,24 +18,15 @@ public final class WeightsTest {
         due.end();
     }
 
-    private static WordBench with(int kind, int q, int n, long... words) {
-        WordBench x = new WordBench();
-        x.make(0, kind, q, n);
-        for (long w : words) {
-            x.add(0, w);
-        }
-        return x;
-    }
-
     private static void least() {
-        due.is("17 least: no word", with(0, 2, 3).least(0), 0);
-        due.is("17 least: one word", with(0, 2, 3, 7).least(0), 0);
-        due.is("17 least: two words", with(0, 2, 3, 7, 1).least(0), 2);
-        due.is("17 least: three words", with(0, 5, 4, 0, 624, 620).least(0), 1);
-        due.is("17 least: no ROW", with(1, 2, 3).least(0), 0);
-        due.is("17 least: zeros", with(1, 2, 3, 0).least(0), 0);
-        due.is("17 least: a LINE", with(1, 3, 4, 32, 13).least(0), 3);
-        due.is("17 least: OWN", with(3, 2, 4, 15).least(0), 4);
+        due.is("17 least: no word", Due.with(0, 2, 3).least(0), 0);
+        due.is("17 least: one word", Due.with(0, 2, 3, 7).least(0), 0);
+        due.is("17 least: two words", Due.with(0, 2, 3, 7, 1).least(0), 2);
+        due.is("17 least: three words", Due.with(0, 5, 4, 0, 624, 620).least(0), 1);
+        due.is("17 least: no ROW", Due.with(1, 2, 3).least(0), 0);
+        due.is("17 least: zeros", Due.with(1, 2, 3, 0).least(0), 0);
+        due.is("17 least: a LINE", Due.with(1, 3, 4, 32, 13).least(0), 3);
+        due.is("17 least: OWN", Due.with(3, 2, 4, 15).least(0), 4);
         WordBench x = new WordBench();
         x.ring(0, 3, 11, 2 + 9 + 2 * 27 + 81 + 243);
         due.is("17 least: of Golay's RING of 3", x.least(0), 5);
@@ -48,7 +39,7 @@ public final class WeightsTest {
         for (int w = 0; w <= 11; w++) {
             due.is("18 weights: of Golay's RING, " + w, x.weights(0, w), golay[w]);
         }
-        x = with(1, 5, 2, 7, 14);
+        x = Due.with(1, 5, 2, 7, 14);
         due.is("18 weights: no word twice", x.weights(0, 2), 4);
         due.is("18 weights: zeros", x.weights(0, 0), 1);
         x.make(1, 1, 2, 12);
@@ -59,7 +50,7 @@ public final class WeightsTest {
     }
 
     private static void weightsOfListed() {
-        WordBench x = with(0, 2, 2, 0, 1, 2);
+        WordBench x = Due.with(0, 2, 2, 0, 1, 2);
         due.is("18 weights: 4 pairs by 3 words is not whole: pairs", x.weights(0, 0), 3);
         due.is("18 weights: pairs", x.weights(0, 1), 4);
         due.is("18 weights: pairs", x.weights(0, 2), 2);
@@ -67,21 +58,21 @@ public final class WeightsTest {
         due.is("18 weights: whole", x.weights(0, 0), 1);
         due.is("18 weights: whole", x.weights(0, 1), 2);
         due.is("18 weights: whole", x.weights(0, 2), 1);
-        x = with(0, 2, 2);
+        x = Due.with(0, 2, 2);
         due.is("18 weights: no word", x.weights(0, 0), 0);
-        x = with(0, 5, 2, 24);
+        x = Due.with(0, 5, 2, 24);
         due.is("18 weights: one word", x.weights(0, 0), 1);
         due.is("18 weights: one word, its weight", x.weights(0, 2), 0);
     }
 
     private static void law() {
-        WordBench x = with(0, 2, 2, 0, 1, 2);
+        WordBench x = Due.with(0, 2, 2, 0, 1, 2);
         due.is("19 law: pairs 3, 4, 2", x.law(0, 0), 9);
         due.is("19 law: pairs 3, 4, 2", x.law(0, 1), 2);
         due.is("19 law: pairs 3, 4, 2", x.law(0, 2), 1);
-        x = with(0, 3, 2);
+        x = Due.with(0, 3, 2);
         due.is("19 law: no word", x.law(0, 0), 0);
-        x = with(1, 5, 3, 31);
+        x = Due.with(1, 5, 3, 31);
         due.is("19 law: of 1 1 1", x.law(0, 0), 5);
         due.is("19 law: of 1 1 1", x.law(0, 1), 0);
         due.is("19 law: of 1 1 1", x.law(0, 2), 60);
@@ -102,15 +93,16 @@ public final class WeightsTest {
     }
 
     private static void beat() {
-        due.is("20 beat: no word", with(0, 2, 3).beat(0), 0);
-        due.is("20 beat: one word", with(0, 2, 3, 7).beat(0), 0);
-        due.is("20 beat: two words", with(0, 2, 3, 7, 1).beat(0), 2);
-        due.is("20 beat: 2 and 3", with(0, 2, 4, 0, 3, 7).beat(0), 1);
-        due.is("20 beat: no ROW", with(1, 2, 3).beat(0), 0);
-        due.is("20 beat: 4 and 6", with(1, 2, 8, 240, 63).beat(0), 2);
-        due.is("20 beat: 4 and 8", with(3, 2, 8, 240, 15).beat(0), 4);
-        due.is("20 beat: 3", with(1, 3, 4, 32, 13).beat(0), 3);
-        due.is("20 beat: 12", with(1, 5, 12, 61035156).beat(0), 12);
+        due.is("20 beat: no word", Due.with(0, 2, 3).beat(0), 0);
+        due.is("20 beat: one word", Due.with(0, 2, 3, 7).beat(0), 0);
+        due.is("20 beat: two words", Due.with(0, 2, 3, 7, 1).beat(0), 2);
+        due.is("20 beat: 2 and 3", Due.with(0, 2, 4, 0, 3, 7).beat(0), 1);
+        due.is("20 beat: 1 and 2", Due.with(0, 2, 2, 0, 1, 3).beat(0), 1);
+        due.is("20 beat: no ROW", Due.with(1, 2, 3).beat(0), 0);
+        due.is("20 beat: 4 and 6", Due.with(1, 2, 8, 240, 63).beat(0), 2);
+        due.is("20 beat: 4 and 8", Due.with(3, 2, 8, 240, 15).beat(0), 4);
+        due.is("20 beat: 3", Due.with(1, 3, 4, 32, 13).beat(0), 3);
+        due.is("20 beat: 12", Due.with(1, 5, 12, 61035156).beat(0), 12);
     }
 
     private static void bound() {
@@ -135,7 +127,7 @@ public final class WeightsTest {
     }
 
     private static void refusals() {
-        WordBench x = with(1, 2, 3, 5);
+        WordBench x = Due.with(1, 2, 3, 5);
         for (int place : new int[] {-1, 12, Integer.MIN_VALUE, Integer.MAX_VALUE}) {
             due.is("17 least: no place", x.least(place), -1);
             due.is("18 weights: no place", x.weights(place, 0), -1);
