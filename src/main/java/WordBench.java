@@ -491,13 +491,10 @@ public final class WordBench {
         if (!isPlace(place) || !isPlace(other) || !isPlace(to) || how < 0 || how > 2) {
             return NO_SUCH;
         }
-        Code first = places[place];
-        Code second = places[other];
+        Line first = lineOf(codeAt(place));
+        Line second = lineOf(codeAt(other));
         if (first == null || second == null) {
-            return EMPTY;
-        }
-        if (first.kind() == LISTED || second.kind() == LISTED) {
-            return OTHER_KIND;
+            return refusalOfLineAt(first == null ? place : other);
         }
         int n = first.space.n;
         if (first.space.q != second.space.q || (how != 1 && n != second.space.n)) {

@@ -131,7 +131,13 @@ public final class MadeTest {
         due.is("30 join: other 12, ahead of empty", x.join(7, 12, 0, 6), -1);
         due.is("30 join: to 12", x.join(0, 0, 0, 12), -1);
         due.is("30 join: empty", x.join(7, 0, 0, 6), -11);
-        due.is("30 join: other empty, ahead of LISTED", x.join(3, 7, 0, 6), -11);
+        due.is("30 join: both empty", x.join(7, 8, 0, 6), -11);
+        due.is("30 join: other empty", x.join(0, 7, 0, 6), -11);
+        due.is("30 join: the first is LISTED, ahead of other empty", x.join(3, 7, 0, 6), -12);
+        due.is("30 join: the first is empty, ahead of other LISTED", x.join(7, 3, 0, 6), -11);
+        due.is("30 join: other 12, ahead of LISTED", x.join(3, 12, 0, 6), -1);
+        due.is("30 join: to 12, ahead of LISTED", x.join(3, 0, 0, 12), -1);
+        due.is("30 join: how 3, ahead of LISTED", x.join(3, 0, 3, 6), -1);
         due.is("30 join: LISTED", x.join(3, 0, 0, 6), -12);
         due.is("30 join: other LISTED, ahead of unlike", x.join(2, 3, 0, 6), -12);
         due.is("30 join: unlike FIELDS", x.join(0, 2, 1, 6), -4);

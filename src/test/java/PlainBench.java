@@ -792,14 +792,13 @@ final class PlainBench {
         if (!place(p) || !place(o) || how < 0 || how > 2 || !place(to)) {
             return -1;
         }
+        for (int each : new int[] {p, o}) {
+            if (line(each) != 0) {
+                return line(each);
+            }
+        }
         Plain a = codes[p];
         Plain b = codes[o];
-        if (a == null || b == null) {
-            return -11;
-        }
-        if (a.listed() || b.listed()) {
-            return -12;
-        }
         if (a.q != b.q || how != 1 && a.n != b.n) {
             return -4;
         }
