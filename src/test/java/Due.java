@@ -26,6 +26,14 @@ final class Due {
         }
     }
 
+    void same(String call, String got, String want) {
+        asked++;
+        if (!got.equals(want)) {
+            wrong++;
+            System.out.println(test + ": " + call + " answered " + got + ", due is " + want);
+        }
+    }
+
     /** The call must throw exactly that class. */
     void fails(String call, Class<? extends RuntimeException> want, Runnable run) {
         asked++;
